@@ -1,0 +1,221 @@
+/** Promises 37 to 43: the grid, against the single calls that tell of one SHAKE. */
+public final class GridTest {
+    private static final Due DUE = new Due("GridTest");
+
+    public static void main(String[] args) {
+        weight();
+        grids();
+        allWeightsAreNought();
+        judgeFindings();
+        next();
+        without();
+        noDepth();
+        DUE.end();
+    }
+
+    private static void weight() {
+        ShakeLetters x = new ShakeLetters();
+        x.town(0);
+        Due.read(x, "word 0 is 0", 0);
+        x.letter(1, 0, 0, -1, 0);
+        long want = 1048576;
+        for (int strength = 0; strength <= 10; strength++) {
+            DUE.is("weight by MISS " + strength, x.weight(10 * strength), want);
+            want /= 4;
+        }
+        DUE.is("weight by MISS 11", x.weight(110), 0);
+        DUE.is("weight by MISS 11 of 39", x.weight(390), 0);
+    }
+
+    private static ShakeLetters withTowns(int seed) {
+        ShakeLetters x = new ShakeLetters();
+        int towns = 1 + seed % 16;
+        for (int i = 0; i < towns; i++) {
+            int cell = (seed * 37 + i * 53) % 144;
+            x.town(cell);
+            x.ground(cell, (seed + i) % 3);
+        }
+        Due.read(x, "word 0 is 6-8; word 1 is 3; word 2 is 9 - 11; falls " + (1 + seed % 20), 0);
+        for (int i = 0; i < towns && i < 6; i++) {
+            x.letter(i % 2 == 0 ? 1 : 2, 100 * i + (seed + i) % 4, 0, -1, 0);
+        }
+        return x;
+    }
+
+    /** What the single calls tell of THE GRID of a DEPTH, in the order of the SHAKES' numbers. */
+    private static int[] misses(ShakeLetters x, int depth) {
+        int[] misses = new int[144 * 40];
+        for (int i = 0; i < misses.length; i++) {
+            misses[i] = x.miss(1000 * (i / 40) + 10 * (i % 40) + depth, -1);
+        }
+        return misses;
+    }
+
+    private static void grids() {
+        for (int seed = 0; seed < 24; seed++) {
+            ShakeLetters x = withTowns(seed);
+            int depth = seed % 4;
+            int[] misses = misses(x, depth);
+            long[] weights = new long[144];
+            long all = 0;
+            int best = 0;
+            for (int i = 0; i < misses.length; i++) {
+                long weight = misses[i] > 10 ? 0 : 1L << (20 - 2 * misses[i]);
+                weights[i / 40] += weight;
+                all += weight;
+                best = misses[i] < misses[best] ? i : best;
+            }
+            String name = "grid " + seed + ": ";
+            DUE.is(name + "best", x.best(depth), 1000 * (best / 40) + 10 * (best % 40) + depth);
+            DUE.is(name + "odds of all", x.odds(depth, -1), all);
+            for (int cell = 0; cell < 144; cell++) {
+                DUE.is(name + "odds of " + cell, x.odds(depth, cell), weights[cell]);
+            }
+            DUE.is(name + "next", x.next(depth), townToAsk(x, depth, misses, misses[best]));
+            if (all > 0) {
+                dueShares(name, x, depth, weights, all);
+            }
+        }
+    }
+
+    private static void dueShares(String name, ShakeLetters x, int depth, long[] weights, long all) {
+        x.sheet(0, 16, 40);
+        long told = weights[0];
+        for (int i = 0; i < 39; i++) {
+            x.write(0, i, 11 + 3 * i);
+            told += weights[11 + 3 * i];
+        }
+        DUE.is(name + "judge", x.judge(depth, 0), told * 100 / all);
+        long[] sorted = weights.clone();
+        java.util.Arrays.sort(sorted);
+        for (int share : new int[] {0, 1, 10, 33, 50, 75, 99, 100}) {
+            int cells = 0;
+            long held = 0;
+            while (held * 100 < all * share) {
+                held += sorted[143 - cells];
+                cells++;
+            }
+            DUE.is(name + "narrow to " + share, x.narrow(depth, share), cells);
+        }
+    }
+
+    private static long townToAsk(ShakeLetters x, int depth, int[] misses, int least) {
+        long asked = Due.NONE;
+        int fewest = Integer.MAX_VALUE;
+        for (int town = 0; town < x.look(0); town++) {
+            int[] bySteps = new int[12];
+            for (int i = 0; i < misses.length; i++) {
+                if (misses[i] == least) {
+                    bySteps[x.step(1000 * (i / 40) + 10 * (i % 40) + depth, town)]++;
+                }
+            }
+            int most = java.util.Arrays.stream(bySteps).max().getAsInt();
+            if (Integer.bitCount(x.span(town)) > 1 && most < fewest) {
+                fewest = most;
+                asked = town;
+            }
+        }
+        return asked;
+    }
+
+    private static ShakeLetters withEmptySpan() {
+        ShakeLetters x = new ShakeLetters();
+        x.town(0);
+        Due.read(x, "word 0 is 0; word 1 is 1", 0);
+        x.letter(1, 0, 0, -1, 0);
+        x.letter(1, 1, 0, -1, 0);
+        return x;
+    }
+
+    private static void allWeightsAreNought() {
+        ShakeLetters x = withEmptySpan();
+        x.sheet(0, 8, 1);
+        DUE.is("odds of nothing", x.odds(1, -1), 0);
+        DUE.is("odds of nothing in a CELL", x.odds(1, 143), 0);
+        DUE.is("best of like ones", x.best(3), 3);
+        DUE.finds(x, "narrow", Due.NONE, () -> x.narrow(0, 50));
+        DUE.finds(x, "narrow to 0", Due.NONE, () -> x.narrow(0, 0));
+        DUE.finds(x, "narrow to 101", Due.BEYOND, () -> x.narrow(0, 101));
+        DUE.finds(x, "narrow to -1", Due.BEYOND, () -> x.narrow(0, -1));
+        DUE.finds(x, "judge", Due.NONE, () -> x.judge(0, 0));
+        DUE.finds(x, "next: the only span is empty", Due.NONE, () -> x.next(0));
+        DUE.is("without one of two", x.without(0, 0), 0);
+        x.write(0, 0, -1);
+        DUE.finds(x, "judge: no CELL is asked before NONE", Due.BEYOND, () -> x.judge(0, 0));
+    }
+
+    private static void judgeFindings() {
+        ShakeLetters x = new ShakeLetters();
+        DUE.finds(x, "judge: no sheet -1", Due.BEYOND, () -> x.judge(0, -1));
+        DUE.finds(x, "judge: no sheet 4", Due.BEYOND, () -> x.judge(0, 4));
+        DUE.finds(x, "judge: no depth, a missing sheet", Due.BEYOND, () -> x.judge(4, 0));
+        DUE.finds(x, "judge: a missing sheet", Due.MISSING, () -> x.judge(0, 0));
+        x.sheet(0, 64, 3);
+        DUE.is("judge: CELL 0 counts once", x.judge(0, 0), 0);
+        x.write(0, 1, 143);
+        DUE.is("judge: 2 of 144", x.judge(0, 0), 1);
+        for (long no : new long[] {-1, 144, 1L << 32, Long.MIN_VALUE}) {
+            x.write(0, 2, no);
+            DUE.finds(x, "judge with " + no, Due.BEYOND, () -> x.judge(0, 0));
+        }
+        x.sheet(0, 64, 0);
+        DUE.is("judge: no numbers", x.judge(0, 0), 0);
+        DUE.is("narrow: each CELL alike", x.narrow(0, 50), 72);
+        DUE.is("narrow: one more", x.narrow(0, 51), 74);
+    }
+
+    private static void next() {
+        ShakeLetters x = new ShakeLetters();
+        DUE.finds(x, "next without towns", Due.NONE, () -> x.next(0));
+        x.town(65);
+        x.town(65);
+        DUE.is("of like ones the least", x.next(0), 0);
+        x.town(0);
+        // From the corner the SHAKES of THE GRID are more unlike than from amid.
+        DUE.is("the fewest, not the least", x.next(0), 2);
+        Due.read(x, "word 0 is 6; word 1 is 5-7", 0);
+        x.letter(1, 0, 0, -1, 0);
+        DUE.is("not one whose span has one step", x.next(0), 2);
+        x.letter(1, 200, 0, -1, 0);
+        DUE.is("the one that is left", x.next(0), 1);
+        x.letter(1, 100, 0, -1, 0);
+        DUE.finds(x, "next when all have one step", Due.NONE, () -> x.next(0));
+        x.reread(2, 1);
+        DUE.is("a span of three steps", x.next(0), 1);
+    }
+
+    private static void without() {
+        ShakeLetters x = new ShakeLetters();
+        x.town(0);
+        x.town(1);
+        Due.read(x, "word 0 is 0; word 1 is 11; word 2 is 5", 0);
+        x.letter(1, 0, 0, -1, 0);
+        x.letter(1, 101, 0, -1, 0);
+        x.letter(3, 1, 0, 0, 0);
+        DUE.is("without(0, 1)", x.without(0, 1), 0);
+        DUE.is("without(0, 0): its copy counts then", x.without(0, 0), 0);
+        long with = x.miss(x.best(0), -1);
+        DUE.is("without(0, 2): it doesn't count", x.without(0, 2), with);
+        DUE.is("there is a MISS with all", with > 0 ? 1 : 0, 1);
+        x.lose(1, true);
+        DUE.is("without a LOST one", x.without(0, 1), 0);
+        x.lose(1, false);
+        DUE.is("nothing is LOST by that", x.look(3), 0);
+        DUE.finds(x, "without no letter", Due.BEYOND, () -> x.without(0, 3));
+        DUE.finds(x, "without -1", Due.BEYOND, () -> x.without(0, -1));
+    }
+
+    private static void noDepth() {
+        ShakeLetters x = withEmptySpan();
+        for (int no : new int[] {-1, 4, Integer.MIN_VALUE, Integer.MAX_VALUE}) {
+            DUE.finds(x, "odds(" + no + ", 0)", Due.BEYOND, () -> x.odds(no, 0));
+            DUE.finds(x, "best(" + no + ")", Due.BEYOND, () -> x.best(no));
+            DUE.finds(x, "narrow(" + no + ")", Due.BEYOND, () -> x.narrow(no, 50));
+            DUE.finds(x, "judge(" + no + ")", Due.BEYOND, () -> x.judge(no, 0));
+            DUE.finds(x, "next(" + no + ")", Due.BEYOND, () -> x.next(no));
+            DUE.finds(x, "without(" + no + ")", Due.BEYOND, () -> x.without(no, 0));
+        }
+        DUE.finds(x, "odds(0, -2)", Due.BEYOND, () -> x.odds(0, -2));
+        DUE.finds(x, "odds(0, 144)", Due.BEYOND, () -> x.odds(0, 144));
+    }
+}
