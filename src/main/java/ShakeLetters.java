@@ -25,6 +25,7 @@ public final class ShakeLetters {
     private static final int MOST_TICK = 400;
 
     private static final int LETTERS = 30;
+    private static final int NO_LETTER = -1;
     private static final int KINDS = 6;
     private static final int HEARD = 2;
     private static final int COPIED = 3;
@@ -142,7 +143,7 @@ public final class ShakeLetters {
             case 1:
                 return now.letters.countOf(town, now.letters.everyOne());
             case 2:
-                return now.letters.countOf(town, now.countingSet(-1));
+                return now.letters.countOf(town, now.countingSet(NO_LETTER));
             case 3:
                 return now.land.allHouses(town, 0);
             case 4:
@@ -226,7 +227,7 @@ public final class ShakeLetters {
         if (!isLetter(letter)) {
             return finding(BEYOND);
         }
-        return (now.countingSet(-1) >> letter) & 1;
+        return (now.countingSet(NO_LETTER) >> letter) & 1;
     }
 
     public int lets(int letter) {
@@ -340,7 +341,7 @@ public final class ShakeLetters {
         if (!isTown(town)) {
             return finding(BEYOND);
         }
-        survey.take(now, -1);
+        survey.take(now, NO_LETTER);
         return survey.spans[town];
     }
 
@@ -353,7 +354,7 @@ public final class ShakeLetters {
     }
 
     public int silent() {
-        int counting = now.countingSet(-1);
+        int counting = now.countingSet(NO_LETTER);
         int quiet = 0;
         for (int town = 0; town < now.land.towns; town++) {
             if (now.letters.countOf(town, counting) == 0) {
@@ -367,7 +368,7 @@ public final class ShakeLetters {
         if (!isShake(shake) || !isTown(town)) {
             return finding(BEYOND);
         }
-        survey.take(now, -1);
+        survey.take(now, NO_LETTER);
         return survey.stepOf(shake, town);
     }
 
@@ -375,7 +376,7 @@ public final class ShakeLetters {
         if (!isShake(shake) || (town != -1 && !isTown(town))) {
             return finding(BEYOND);
         }
-        survey.take(now, -1);
+        survey.take(now, NO_LETTER);
         return town == -1 ? survey.missOf(shake) : survey.missIn(shake, town);
     }
 
@@ -383,7 +384,7 @@ public final class ShakeLetters {
         if (!isShake(shake) || !isShake(other)) {
             return finding(BEYOND);
         }
-        survey.take(now, -1);
+        survey.take(now, NO_LETTER);
         survey.layMisses(0, shake);
         survey.layMisses(1, other);
         return survey.missOfTwo(0, 1);
@@ -393,7 +394,7 @@ public final class ShakeLetters {
         if (!isShake(shake) || !isShake(other)) {
             return finding(BEYOND);
         }
-        survey.take(now, -1);
+        survey.take(now, NO_LETTER);
         int nearer = 0;
         for (int town = 0; town < now.land.towns; town++) {
             if (survey.missIn(other, town) < survey.missIn(shake, town)) {
@@ -427,8 +428,8 @@ public final class ShakeLetters {
         if (!isShake(shake)) {
             return finding(BEYOND);
         }
-        survey.take(now, -1);
-        int counting = now.countingSet(-1);
+        survey.take(now, NO_LETTER);
+        int counting = now.countingSet(NO_LETTER);
         int fitting = 0;
         for (int letter = 0; letter < now.letters.count; letter++) {
             int only = 1 << survey.stepOf(shake, now.letters.abouts[letter]);
@@ -443,7 +444,7 @@ public final class ShakeLetters {
         if (!isShake(shake) || !isTown(town) || !isBelow(of, SORTS + 1)) {
             return finding(BEYOND);
         }
-        survey.take(now, -1);
+        survey.take(now, NO_LETTER);
         int step = survey.stepOf(shake, town);
         if (of < SORTS) {
             return now.land.fallen(town, of, step);
@@ -461,7 +462,7 @@ public final class ShakeLetters {
         if (!isShake(shake)) {
             return finding(BEYOND);
         }
-        survey.take(now, -1);
+        survey.take(now, NO_LETTER);
         return weightOfMiss(survey.missOf(shake));
     }
 
@@ -469,7 +470,7 @@ public final class ShakeLetters {
         if (!isBelow(depth, DEPTHS) || (cell != -1 && !isBelow(cell, CELLS))) {
             return finding(BEYOND);
         }
-        survey.take(now, -1);
+        survey.take(now, NO_LETTER);
         return cell == -1 ? survey.weighGrid(depth) : survey.weighCell(cell, depth);
     }
 
@@ -477,7 +478,7 @@ public final class ShakeLetters {
         if (!isBelow(depth, DEPTHS)) {
             return finding(BEYOND);
         }
-        survey.take(now, -1);
+        survey.take(now, NO_LETTER);
         return survey.bestShake(depth);
     }
 
@@ -485,7 +486,7 @@ public final class ShakeLetters {
         if (!isBelow(depth, DEPTHS) || !isBelow(share, 101)) {
             return finding(BEYOND);
         }
-        survey.take(now, -1);
+        survey.take(now, NO_LETTER);
         long all = survey.weighGrid(depth);
         if (all == 0) {
             return finding(NONE);
@@ -510,7 +511,7 @@ public final class ShakeLetters {
         if (!sheets.allBelow(s, CELLS)) {
             return finding(BEYOND);
         }
-        survey.take(now, -1);
+        survey.take(now, NO_LETTER);
         long all = survey.weighGrid(depth);
         if (all == 0) {
             return finding(NONE);
@@ -526,7 +527,7 @@ public final class ShakeLetters {
         if (!isBelow(depth, DEPTHS)) {
             return finding(BEYOND);
         }
-        survey.take(now, -1);
+        survey.take(now, NO_LETTER);
         int town = survey.townToAsk(depth);
         return town < 0 ? finding(NONE) : town;
     }
@@ -548,7 +549,7 @@ public final class ShakeLetters {
         if (now.notes.count >= NOTES) {
             return finding(FULL);
         }
-        survey.take(now, -1);
+        survey.take(now, NO_LETTER);
         return now.notes.addNote(shake, survey.missOf(shake), now.land.day);
     }
 
@@ -564,7 +565,7 @@ public final class ShakeLetters {
             case 2:
                 return now.notes.openDays[note];
             case 3:
-                survey.take(now, -1);
+                survey.take(now, NO_LETTER);
                 return survey.missOf(now.notes.shakes[note]);
             default:
                 return finding(BEYOND);
@@ -572,7 +573,7 @@ public final class ShakeLetters {
     }
 
     public int news() {
-        survey.take(now, -1);
+        survey.take(now, NO_LETTER);
         int changed = 0;
         for (int note = 0; note < now.notes.count; note++) {
             if (survey.missOf(now.notes.shakes[note]) != now.notes.misses[note]) {
@@ -656,7 +657,7 @@ public final class ShakeLetters {
             case 1:
                 return now.letters.count;
             case 2:
-                return Integer.bitCount(now.countingSet(-1));
+                return Integer.bitCount(now.countingSet(NO_LETTER));
             case 3:
                 return Integer.bitCount(now.letters.lostSet);
             case 4:
@@ -717,7 +718,7 @@ public final class ShakeLetters {
         if (kind == COPIED) {
             return isLetter(from);
         }
-        return from == -1 || (kind == HEARD && isLetter(from));
+        return from == NO_LETTER || (kind == HEARD && isLetter(from));
     }
 
     private static boolean isLate(int kind, int late) {
@@ -748,7 +749,7 @@ public final class ShakeLetters {
     }
 
     private void layShakes(int s) {
-        survey.take(now, -1);
+        survey.take(now, NO_LETTER);
         for (int i = 0; i < sheets.sizes[s]; i++) {
             survey.layMisses(i, (int) sheets.at(s, i));
         }
@@ -952,7 +953,7 @@ public final class ShakeLetters {
             return same;
         }
 
-        /** LETTERS that COUNT on a DAY if the LETTER gone (-1: none) were LOST. */
+        /** LETTERS that COUNT on a DAY if the LETTER gone (or NO_LETTER) were LOST. */
         int countingSet(int day, int gone) {
             int counting = 0;
             int copiedSet = 0;
@@ -1142,7 +1143,7 @@ public final class ShakeLetters {
 
         /** LETTERS that COUNT and can mean a DAY that this one can mean. */
         int sameDaySet(int letter) {
-            int counting = countingSet(-1);
+            int counting = countingSet(NO_LETTER);
             int unlike = fillDays(letter);
             int same = 0;
             for (int reckoning = 0; reckoning < RECKONINGS; reckoning++) {
@@ -1416,7 +1417,7 @@ public final class ShakeLetters {
             fallsBy = 1;
         }
 
-        /** Looks at a world as if the LETTER gone (-1: none) were LOST. */
+        /** Looks at a world as if the LETTER gone (or NO_LETTER) were LOST. */
         void take(World world, int gone) {
             towns = world.land.towns;
             fallsBy = Math.max(1, world.lawOf(KEY_FALLS));

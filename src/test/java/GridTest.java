@@ -7,6 +7,7 @@ public final class GridTest {
         grids();
         allWeightsAreNought();
         judgeFindings();
+        lightWeights();
         next();
         without();
         noDepth();
@@ -160,8 +161,38 @@ public final class GridTest {
         }
         x.sheet(0, 64, 0);
         DUE.is("judge: no numbers", x.judge(0, 0), 0);
+        for (int s : new int[] {2, 3}) {
+            x.sheet(s, 64, 40);
+            for (int i = 0; i < 40; i++) {
+                x.write(s, i, 100 + i);
+            }
+        }
+        x.write(3, 0, -1);
+        DUE.is("judge: a whole sheet, whatever the next one has", x.judge(0, 2), 27);
+        x.write(3, 0, 0);
+        DUE.is("judge: the whole last sheet", x.judge(0, 3), 27);
         DUE.is("narrow: each CELL alike", x.narrow(0, 50), 72);
         DUE.is("narrow: one more", x.narrow(0, 51), 74);
+    }
+
+    /** Where each WEIGHT is 1 or 0, one that is counted twice by a little is seen. */
+    private static void lightWeights() {
+        ShakeLetters x = new ShakeLetters();
+        x.town(0);
+        x.town(0);
+        Due.read(x, "word 0 is 0; word 1 is 10; falls 1", 0);
+        x.letter(1, 0, 0, -1, 0);
+        x.letter(1, 101, 0, -1, 0);
+        DUE.is("light: CELL 143", x.odds(0, 143), 40);
+        DUE.is("light: CELL 0", x.odds(0, 0), 11);
+        long all = x.odds(0, -1);
+        x.sheet(0, 16, 40);
+        for (int i = 0; i < 40; i++) {
+            x.write(0, i, 143);
+        }
+        DUE.is("light: it would be seen", (40 + 39) * 100 / all - 40 * 100 / all > 0 ? 1 : 0, 1);
+        DUE.is("light: judge", x.judge(0, 0), 40 * 100 / all);
+        DUE.is("light: narrow to all", x.narrow(0, 100), 144);
     }
 
     private static void next() {
@@ -182,6 +213,8 @@ public final class GridTest {
         DUE.finds(x, "next when all have one step", Due.NONE, () -> x.next(0));
         x.reread(2, 1);
         DUE.is("a span of three steps", x.next(0), 1);
+        Due.read(x, "word 1 is 5-6", 0);
+        DUE.is("a span of two steps", x.next(0), 1);
     }
 
     private static void without() {
