@@ -59,6 +59,8 @@ public final class ShakeLetters {
     private static final int DEPTHS = 4;
     private static final int MOST_MISS = 10;
     private static final int PAIR_PLACES = 12;
+    /** Above every MISS, and above how many SHAKES there are. */
+    private static final int ABOVE_ALL = 1000000;
 
     private static final int NOTES = 20;
     private static final int SHEETS = 4;
@@ -1497,7 +1499,7 @@ public final class ShakeLetters {
         /** Of the first places that were laid: 100 * the lesser + the greater. */
         int bestPair(int places) {
             int best = 1;
-            int least = Integer.MAX_VALUE;
+            int least = ABOVE_ALL;
             for (int place = 0; place < places; place++) {
                 for (int other = place + 1; other < places; other++) {
                     int missed = missOfTwo(place, other);
@@ -1584,7 +1586,7 @@ public final class ShakeLetters {
 
         int bestShake(int depth) {
             int best = depth;
-            int least = Integer.MAX_VALUE;
+            int least = ABOVE_ALL;
             for (int cell = 0; cell < CELLS; cell++) {
                 fillRow(cell, depth);
                 for (int strength = 0; strength < STRENGTHS; strength++) {
@@ -1601,7 +1603,7 @@ public final class ShakeLetters {
         int townToAsk(int depth) {
             countSteps(depth, missOf(bestShake(depth)));
             int asked = -1;
-            int fewest = Integer.MAX_VALUE;
+            int fewest = ABOVE_ALL;
             for (int town = 0; town < towns; town++) {
                 int most = mostOfOneStep(town);
                 if (isWide(town) && most < fewest) {

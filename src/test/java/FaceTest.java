@@ -30,6 +30,9 @@ public final class FaceTest {
         "\\bsynchronized\\b", "\\bassert\\b", "->", "::", "Exact\\b", "\\bSystem\\.(?!arraycopy\\b)", "\\bprotected\\b",
         "\\brecord\\b", "\\bnative\\b", "\\bThread\\b", "\\bRandom\\b", "\\bObject\\b", "@", "\\bstatic \\{", "[^\\x00-\\x7f]"};
 
+    private static final Set<String> LIBRARY = Set.of("Math.max", "Math.min", "Math.abs", "Integer.bitCount",
+            "Arrays.fill", "Arrays.copyOf", "Arrays.copyOfRange", "System.arraycopy");
+
     public static void main(String[] args) throws Exception {
         publicFace();
         ownNames();
@@ -101,6 +104,11 @@ public final class FaceTest {
             String name = imports.group(1);
             boolean fine = List.of("java.util.Arrays", "java.util.ArrayList", "java.util.List").contains(name);
             DUE.is("import of " + name, fine ? 1 : 0, 1);
+        }
+        Matcher library = Pattern.compile("\\b(Math|Integer|Long|Arrays|System)\\.(\\w+)").matcher(code);
+        while (library.find()) {
+            boolean fine = LIBRARY.contains(library.group());
+            DUE.is("use of " + library.group(), fine ? 1 : 0, 1);
         }
         Matcher statics = Pattern.compile("static (?!final )[\\w\\[\\]]+ \\w+( =|;)").matcher(code);
         DUE.is("a static field that isn't final", statics.find() ? 1 : 0, 0);

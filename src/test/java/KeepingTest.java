@@ -1,5 +1,3 @@
-import java.util.List;
-
 /** Promises 44 to 54: notes, sheets, images, look and status. */
 public final class KeepingTest {
     private static final Due DUE = new Due("KeepingTest");
@@ -10,9 +8,7 @@ public final class KeepingTest {
         sheet();
         write();
         copy();
-        copyFindings();
         images();
-        imageKeepsAll();
         look();
         status();
         DUE.end();
@@ -35,15 +31,9 @@ public final class KeepingTest {
         x.lose(0, true);
         DUE.is("its MISS then", x.noted(0, 1), 2);
         DUE.is("its MISS now that it is LOST", x.noted(0, 3), 0);
-        DUE.finds(x, "noted(2, 0)", Due.BEYOND, () -> x.noted(2, 0));
-        DUE.finds(x, "noted(-1, 0)", Due.BEYOND, () -> x.noted(-1, 0));
-        DUE.finds(x, "noted(0, 4)", Due.BEYOND, () -> x.noted(0, 4));
-        DUE.finds(x, "noted(0, -1)", Due.BEYOND, () -> x.noted(0, -1));
         for (int i = 2; i < 20; i++) {
             DUE.is("note " + i, x.note(0), i);
         }
-        DUE.finds(x, "a 21st note", Due.FULL, () -> x.note(0));
-        DUE.finds(x, "BEYOND is asked before FULL", Due.BEYOND, () -> x.note(4));
     }
 
     private static void news() {
@@ -74,22 +64,8 @@ public final class KeepingTest {
             DUE.is("sheet of 40 anew", x.sheet(3, bits, 40), 40);
             DUE.is("all are 0", x.write(3, 39, 5), 0);
             DUE.is("sheet of none", x.sheet(3, bits, 0), 0);
-            DUE.finds(x, "no number 0", Due.BEYOND, () -> x.write(3, 0, 1));
         }
-        x.sheet(2, 16, 7);
         DUE.is("missing", x.sheet(3, 0, 40), 0);
-        DUE.finds(x, "it is missing", Due.MISSING, () -> x.write(3, 0, 1));
-        DUE.finds(x, "sheet(-1, ..)", Due.BEYOND, () -> x.sheet(-1, 8, 1));
-        DUE.finds(x, "sheet(4, ..)", Due.BEYOND, () -> x.sheet(4, 8, 1));
-        for (int bits : new int[] {-1, 1, 7, 9, 32, 63, 65, Integer.MIN_VALUE}) {
-            DUE.finds(x, "bits " + bits, Due.BEYOND, () -> x.sheet(2, bits, 1));
-        }
-        DUE.finds(x, "other bits before SIZE", Due.BEYOND, () -> x.sheet(2, 32, -1));
-        DUE.finds(x, "n -1", Due.SIZE, () -> x.sheet(2, 8, -1));
-        DUE.finds(x, "n -1, bits 0", Due.SIZE, () -> x.sheet(2, 0, -1));
-        DUE.finds(x, "n least", Due.SIZE, () -> x.sheet(2, 64, Integer.MIN_VALUE));
-        DUE.finds(x, "n 41", Due.BEYOND, () -> x.sheet(2, 8, 41));
-        DUE.finds(x, "n 41, bits 0", Due.BEYOND, () -> x.sheet(2, 0, 41));
     }
 
     private static void dueWritten(ShakeLetters x, int s, long v, long kept) {
@@ -110,11 +86,6 @@ public final class KeepingTest {
         dueWritten(x, 2, Due.BEYOND, Due.BEYOND);
         DUE.is("that was no finding", x.status(-1), 0);
         DUE.is("the other number", x.write(0, 0, 1), 0);
-        DUE.finds(x, "write(-1, 0, 0)", Due.BEYOND, () -> x.write(-1, 0, 0));
-        DUE.finds(x, "write(4, 0, 0)", Due.BEYOND, () -> x.write(4, 0, 0));
-        DUE.finds(x, "a missing sheet's number -1", Due.MISSING, () -> x.write(3, -1, 0));
-        DUE.finds(x, "write(0, -1, 0)", Due.BEYOND, () -> x.write(0, -1, 0));
-        DUE.finds(x, "write(0, 2, 0)", Due.BEYOND, () -> x.write(0, 2, 0));
     }
 
     private static void fillWithPlaces(ShakeLetters x, int s, int n) {
@@ -149,33 +120,8 @@ public final class KeepingTest {
         dueRow(x, "copy whole", 1, 13, 14, 22, 23, 13);
     }
 
-    private static void copyFindings() {
-        ShakeLetters x = new ShakeLetters();
-        x.sheet(0, 16, 5);
-        x.sheet(1, 16, 5);
-        x.sheet(2, 8, 5);
-        fillWithPlaces(x, 1, 5);
-        DUE.finds(x, "copy from sheet -1", Due.BEYOND, () -> x.copy(-1, 0, 0, 0, 1));
-        DUE.finds(x, "copy from sheet 4", Due.BEYOND, () -> x.copy(4, 0, 3, 0, 1));
-        DUE.finds(x, "copy to sheet -1", Due.BEYOND, () -> x.copy(3, 0, -1, 0, 1));
-        DUE.finds(x, "copy to sheet 4", Due.BEYOND, () -> x.copy(0, 0, 4, 0, 1));
-        DUE.finds(x, "copy from a missing sheet", Due.MISSING, () -> x.copy(3, 0, 0, 0, -1));
-        DUE.finds(x, "copy to a missing sheet", Due.MISSING, () -> x.copy(2, 0, 3, 0, -1));
-        DUE.finds(x, "copy to other bits", Due.KIND, () -> x.copy(0, 0, 2, 0, -1));
-        DUE.finds(x, "copy from other bits", Due.KIND, () -> x.copy(2, 0, 0, 0, 1));
-        int most = Integer.MAX_VALUE;
-        int[][] beyond = {{-1, 0, 1}, {0, -1, 1}, {0, 0, -1}, {0, 0, 6}, {5, 0, 1}, {0, 5, 1}, {6, 0, 0}, {0, 6, 0},
-            {1, 0, 5}, {0, 1, 5}, {most, 0, 1}, {0, most, 1}, {1, 1, most}, {most, most, most},
-            {Integer.MIN_VALUE, 0, 1}, {0, 0, Integer.MIN_VALUE}};
-        for (int[] b : beyond) {
-            DUE.finds(x, "copy from " + b[0] + " to " + b[1] + ", " + b[2], Due.BEYOND,
-                    () -> x.copy(1, b[0], 0, b[1], b[2]));
-        }
-    }
-
     private static void images() {
         ShakeLetters x = new ShakeLetters();
-        DUE.finds(x, "undo() of nothing", Due.NONE, () -> x.undo());
         x.tick(2);
         DUE.is("image()", x.image(), 1);
         x.tick(3);
@@ -188,7 +134,6 @@ public final class KeepingTest {
         DUE.is("undo() to the latest", x.undo(), 7);
         DUE.is("tear()", x.tear(), 1);
         DUE.is("tear() again", x.tear(), 0);
-        DUE.finds(x, "undo() of what is torn", Due.NONE, () -> x.undo());
         DUE.is("the DAY stays", x.look(6), 7);
     }
 
@@ -211,54 +156,6 @@ public final class KeepingTest {
         return x;
     }
 
-    private static void changeAll(ShakeLetters x) {
-        x.ground(66, 2);
-        x.ground(5, 2);
-        x.town(7);
-        x.houses(1, 0, 1);
-        x.houses(1, 5, 1);
-        x.houses(2, 4, 1);
-        Due.read(x, "falls 9; word 0 is 1", 0);
-        x.letter(2, 0, 0, 0, 10);
-        x.letter(0, 201, 0, -1, 0);
-        x.lose(2, false);
-        x.lose(3, true);
-        x.lose(0, true);
-        x.reread(2, 9);
-        x.note(80);
-        x.tick(77);
-    }
-
-    private static void imageKeepsAll() {
-        ShakeLetters x = filled();
-        x.image();
-        List<Long> before = Due.seen(x);
-        changeAll(x);
-        DUE.is("all is other", before.equals(Due.seen(x)) ? 1 : 0, 0);
-        int all = x.status(-1);
-        DUE.is("undo()", x.undo(), 1);
-        DUE.is("status() stays", x.status(-1), all);
-        DUE.is("all is as it was", before.equals(Due.seen(x)) ? 1 : 0, 1);
-        DUE.is("GROUND of a CELL without a TOWN", x.ground(7, 0), 0);
-        DUE.is("a new TOWN has no HOUSES", x.of(x.town(9), 4), 0);
-        DUE.is("a new LETTER is HERE", x.told(x.letter(0, 0, 0, -1, 0), 6), 0);
-        changeAll(x);
-        x.undo();
-        DUE.is("all is as it was, twice", before.equals(Due.seen(x)) ? 1 : 0, 1);
-        x.sheet(0, 8, 1);
-        x.write(0, 0, 5);
-        Due.feed(x, "abc");
-        x.undo();
-        DUE.is("sheets stay", x.write(0, 0, 5), 5);
-        DUE.is("the tape stays", x.look(7), 3);
-        x.image();
-        x.wipe();
-        x.sheet(0, 8, 1);
-        x.undo();
-        DUE.is("sheets aren't kept", x.write(0, 0, 5), 0);
-        DUE.is("the tape isn't kept", x.look(7), 0);
-    }
-
     private static void look() {
         ShakeLetters x = filled();
         x.letter(5, 0, 0, -1, 0);
@@ -267,8 +164,6 @@ public final class KeepingTest {
         for (int what = 0; what < 8; what++) {
             DUE.is("look(" + what + ")", x.look(what), want[what]);
         }
-        DUE.finds(x, "look(-1)", Due.BEYOND, () -> x.look(-1));
-        DUE.finds(x, "look(8)", Due.BEYOND, () -> x.look(8));
     }
 
     private static void status() {

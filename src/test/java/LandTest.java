@@ -40,28 +40,18 @@ public final class LandTest {
         DUE.is("ground(143, 2)", x.ground(143, 2), 0);
         DUE.is("ground(143, 2) again", x.ground(143, 2), 2);
         x.town(143);
-        DUE.finds(x, "ground(-1, 0)", Due.BEYOND, () -> x.ground(-1, 0));
-        DUE.finds(x, "ground(144, 0)", Due.BEYOND, () -> x.ground(144, 0));
-        DUE.finds(x, "ground(143, -1)", Due.BEYOND, () -> x.ground(143, -1));
-        DUE.finds(x, "ground(143, 3)", Due.BEYOND, () -> x.ground(143, 3));
-        DUE.finds(x, "ground(least, most)", Due.BEYOND, () -> x.ground(Integer.MIN_VALUE, Integer.MAX_VALUE));
     }
 
     private static void town() {
         ShakeLetters x = new ShakeLetters();
-        DUE.finds(x, "town(-1)", Due.BEYOND, () -> x.town(-1));
-        DUE.finds(x, "town(144)", Due.BEYOND, () -> x.town(144));
         for (int i = 0; i < 16; i++) {
             DUE.is("town " + i, x.town(i % 2 == 0 ? 143 : 0), i);
         }
         DUE.is("two TOWNS in a CELL", x.of(14, 0), 143);
-        DUE.finds(x, "a seventeenth town", Due.FULL, () -> x.town(3));
-        DUE.finds(x, "BEYOND is asked before FULL", Due.BEYOND, () -> x.town(144));
     }
 
     private static void houses() {
         ShakeLetters x = new ShakeLetters();
-        DUE.finds(x, "houses of no town", Due.BEYOND, () -> x.houses(0, 0, 1));
         x.town(5);
         x.town(6);
         for (int of = 0; of < 6; of++) {
@@ -71,29 +61,12 @@ public final class LandTest {
             DUE.is("houses then " + of, x.houses(1, of, 0), 9999 - of);
             DUE.is("houses of the other town " + of, x.houses(0, of, 0), 0);
         }
-        DUE.finds(x, "houses(-1, 0, 1)", Due.BEYOND, () -> x.houses(-1, 0, 1));
-        DUE.finds(x, "houses(2, 0, 1)", Due.BEYOND, () -> x.houses(2, 0, 1));
-        DUE.finds(x, "houses(0, -1, 1)", Due.BEYOND, () -> x.houses(0, -1, 1));
-        DUE.finds(x, "houses(0, 6, 1)", Due.BEYOND, () -> x.houses(0, 6, 1));
-        DUE.finds(x, "houses(0, 0, -1)", Due.BEYOND, () -> x.houses(0, 0, -1));
-        DUE.finds(x, "houses(0, 0, 10000)", Due.BEYOND, () -> x.houses(0, 0, 10000));
     }
 
     private static void built() {
         ShakeLetters x = new ShakeLetters();
         x.sheet(0, 64, 3);
-        DUE.finds(x, "built of no town", Due.BEYOND, () -> x.built(0, 0));
         x.town(5);
-        DUE.finds(x, "built(0, -1)", Due.BEYOND, () -> x.built(0, -1));
-        DUE.finds(x, "built(0, 4)", Due.BEYOND, () -> x.built(0, 4));
-        DUE.finds(x, "built from a missing sheet", Due.MISSING, () -> x.built(0, 1));
-        x.sheet(1, 16, 2);
-        x.write(1, 0, -1);
-        DUE.finds(x, "built from 2 numbers, one below 0", Due.SIZE, () -> x.built(0, 1));
-        x.sheet(1, 16, 4);
-        DUE.finds(x, "built from 4 numbers", Due.SIZE, () -> x.built(0, 1));
-        x.sheet(1, 16, 0);
-        DUE.finds(x, "built from no numbers", Due.SIZE, () -> x.built(0, 1));
         for (int of = 0; of < 6; of++) {
             x.houses(0, of, 7);
         }
@@ -106,12 +79,6 @@ public final class LandTest {
         DUE.is("built: CLAY today", x.houses(0, 4, 1), 7);
         DUE.is("built: WOOD today", x.houses(0, 5, 1), 0);
         DUE.is("built: as they were", x.of(0, 3), 21);
-        x.write(0, 2, 10000);
-        DUE.finds(x, "built: 10000", Due.BEYOND, () -> x.built(0, 0));
-        x.write(0, 2, -1);
-        DUE.finds(x, "built: -1", Due.BEYOND, () -> x.built(0, 0));
-        x.write(0, 2, (1L << 32) + 5);
-        DUE.finds(x, "built: a number of more than 32 bits", Due.BEYOND, () -> x.built(0, 0));
         x.sheet(2, 8, 3);
         x.write(2, 0, 127);
         DUE.is("built from 8 bits", x.built(0, 2), 3);
@@ -120,7 +87,6 @@ public final class LandTest {
 
     private static void of() {
         ShakeLetters x = new ShakeLetters();
-        DUE.finds(x, "of no town", Due.BEYOND, () -> x.of(0, 0));
         x.town(77);
         x.town(78);
         x.letter(0, 100, 0, -1, 0);
@@ -139,10 +105,6 @@ public final class LandTest {
         DUE.is("of(1, 4)", x.of(1, 4), 56);
         DUE.is("of(0, 1)", x.of(0, 1), 1);
         DUE.is("of(0, 3)", x.of(0, 3), 0);
-        DUE.finds(x, "of(2, 0)", Due.BEYOND, () -> x.of(2, 0));
-        DUE.finds(x, "of(-1, 0)", Due.BEYOND, () -> x.of(-1, 0));
-        DUE.finds(x, "of(1, -1)", Due.BEYOND, () -> x.of(1, -1));
-        DUE.finds(x, "of(1, 5)", Due.BEYOND, () -> x.of(1, 5));
     }
 
     private static void tick() {
@@ -151,13 +113,7 @@ public final class LandTest {
         for (int i = 1; i <= 24; i++) {
             DUE.is("tick(400)", x.tick(400), 1 + 400 * i);
         }
-        DUE.finds(x, "tick(0)", Due.BEYOND, () -> x.tick(0));
-        DUE.finds(x, "tick(-1)", Due.BEYOND, () -> x.tick(-1));
-        DUE.finds(x, "tick(401)", Due.BEYOND, () -> x.tick(401));
-        DUE.finds(x, "tick(most)", Due.BEYOND, () -> x.tick(Integer.MAX_VALUE));
-        DUE.finds(x, "tick to 10000", Due.FULL, () -> x.tick(399));
         DUE.is("tick to 9999", x.tick(398), 9999);
-        DUE.finds(x, "tick behind 9999", Due.FULL, () -> x.tick(1));
         DUE.is("the open DAY", x.look(6), 9999);
     }
 }

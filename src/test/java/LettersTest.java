@@ -4,7 +4,6 @@ public final class LettersTest {
 
     public static void main(String[] args) {
         letter();
-        letterWrong();
         as();
         told();
         lose();
@@ -15,7 +14,6 @@ public final class LettersTest {
         rootAndTree();
         daysAndDay();
         evening();
-        noLetter();
         DUE.end();
     }
 
@@ -41,45 +39,6 @@ public final class LettersTest {
         for (int i = 8; i < 30; i++) {
             DUE.is("letter " + i, x.letter(0, 0, 0, -1, 0), i);
         }
-        DUE.finds(x, "a 31st letter", Due.FULL, () -> x.letter(0, 0, 0, -1, 0));
-        DUE.finds(x, "BEYOND is asked before FULL", Due.BEYOND, () -> x.letter(6, 0, 0, -1, 0));
-    }
-
-    private static void letterWrong() {
-        ShakeLetters x = withTowns(2);
-        DUE.finds(x, "a copy of none", Due.BEYOND, () -> x.letter(3, 0, 0, 0, 0));
-        x.letter(0, 0, 0, -1, 0);
-        DUE.finds(x, "kind -1", Due.BEYOND, () -> x.letter(-1, 0, 0, -1, 0));
-        DUE.finds(x, "kind 6", Due.BEYOND, () -> x.letter(6, 0, 0, -1, 0));
-        DUE.finds(x, "TOWN 2", Due.BEYOND, () -> x.letter(0, 200, 0, -1, 0));
-        DUE.finds(x, "about -1", Due.BEYOND, () -> x.letter(0, -1, 0, -1, 0));
-        DUE.finds(x, "about -100", Due.BEYOND, () -> x.letter(0, -100, 0, -1, 0));
-        DUE.finds(x, "WORD 16", Due.BEYOND, () -> x.letter(0, 116, 0, -1, 0));
-        DUE.finds(x, "WORD 99", Due.BEYOND, () -> x.letter(0, 99, 0, -1, 0));
-        DUE.finds(x, "DATE 1000", Due.BEYOND, () -> x.letter(0, 0, 10000, -1, 0));
-        DUE.finds(x, "when -1", Due.BEYOND, () -> x.letter(0, 0, -1, -1, 0));
-        DUE.finds(x, "when -10", Due.BEYOND, () -> x.letter(0, 0, -10, -1, 0));
-        DUE.finds(x, "RECKONING 5", Due.BEYOND, () -> x.letter(0, 0, 15, -1, 0));
-        for (int kind : new int[] {0, 1, 4, 5}) {
-            DUE.finds(x, "from of kind " + kind, Due.BEYOND, () -> x.letter(kind, 0, 0, 0, 0));
-        }
-        DUE.finds(x, "HEARD from -2", Due.BEYOND, () -> x.letter(2, 0, 0, -2, 0));
-        DUE.finds(x, "HEARD from itself", Due.BEYOND, () -> x.letter(2, 0, 0, 1, 0));
-        DUE.finds(x, "COPIED from none", Due.BEYOND, () -> x.letter(3, 0, 0, -1, 0));
-        DUE.finds(x, "COPIED from itself", Due.BEYOND, () -> x.letter(3, 0, 0, 1, 0));
-        DUE.finds(x, "LETTER from -2", Due.BEYOND, () -> x.letter(0, 0, 0, -2, 0));
-        DUE.finds(x, "late -1", Due.BEYOND, () -> x.letter(4, 0, 0, -1, -1));
-        DUE.finds(x, "late -10", Due.BEYOND, () -> x.letter(0, 0, 0, -1, -10));
-        DUE.finds(x, "late by 100", Due.BEYOND, () -> x.letter(0, 0, 0, -1, 1000));
-        DUE.finds(x, "LEAN 6", Due.BEYOND, () -> x.letter(4, 0, 0, -1, 6));
-        for (int kind : new int[] {0, 1, 2, 5}) {
-            DUE.finds(x, "LEAN of kind " + kind, Due.BEYOND, () -> x.letter(kind, 0, 0, -1, 1));
-        }
-        DUE.finds(x, "LEAN of a COPIED one", Due.BEYOND, () -> x.letter(3, 0, 0, 0, 1));
-        DUE.finds(x, "the greatest of all", Due.BEYOND,
-                () -> x.letter(0, Integer.MAX_VALUE, Integer.MAX_VALUE, -1, Integer.MAX_VALUE));
-        DUE.finds(x, "the least of all", Due.BEYOND,
-                () -> x.letter(2, Integer.MIN_VALUE, Integer.MIN_VALUE, Integer.MIN_VALUE, Integer.MIN_VALUE));
     }
 
     /** One LETTER of each kind, its number the kind's. */
@@ -102,11 +61,6 @@ public final class LettersTest {
                 DUE.is("as(" + letter + ", " + kind + ")", x.as(letter, kind), is ? letter : Due.KIND);
             }
         }
-        DUE.finds(x, "as(0, 1)", Due.KIND, () -> x.as(0, 1));
-        DUE.finds(x, "as(6, 0)", Due.BEYOND, () -> x.as(6, 0));
-        DUE.finds(x, "as(-1, 0)", Due.BEYOND, () -> x.as(-1, 0));
-        DUE.finds(x, "as(0, 6)", Due.BEYOND, () -> x.as(0, 6));
-        DUE.finds(x, "as(0, -1)", Due.BEYOND, () -> x.as(0, -1));
     }
 
     private static void told() {
@@ -123,16 +77,6 @@ public final class LettersTest {
             DUE.is("told of a COPIED one, " + what, x.told(copied, what), ofCopied[what]);
         }
         DUE.is("told(2, 7)", x.told(2, 7), -1);
-        for (int letter : new int[] {0, 1, 4, 5}) {
-            DUE.finds(x, "told(" + letter + ", 7)", Due.KIND, () -> x.told(letter, 7));
-        }
-        for (int letter : new int[] {0, 1, 2, 3, 5}) {
-            DUE.finds(x, "told(" + letter + ", 8)", Due.KIND, () -> x.told(letter, 8));
-        }
-        DUE.finds(x, "told(8, 0)", Due.BEYOND, () -> x.told(8, 0));
-        DUE.finds(x, "told(-1, 7)", Due.BEYOND, () -> x.told(-1, 7));
-        DUE.finds(x, "told(0, 9)", Due.BEYOND, () -> x.told(0, 9));
-        DUE.finds(x, "told(0, -1)", Due.BEYOND, () -> x.told(0, -1));
     }
 
     private static void lose() {
@@ -156,11 +100,7 @@ public final class LettersTest {
         DUE.is("reread(0, 15)", x.reread(0, 15), 4);
         DUE.is("reread(0, 0)", x.reread(0, 0), 15);
         DUE.is("reread of a TORN one that isn't KNOWN yet", x.reread(1, 6), 5);
-        DUE.finds(x, "reread(0, 16)", Due.BEYOND, () -> x.reread(0, 16));
-        DUE.finds(x, "reread(0, -1)", Due.BEYOND, () -> x.reread(0, -1));
         x.lose(0, true);
-        DUE.finds(x, "reread of a LOST one", Due.STATE, () -> x.reread(0, 3));
-        DUE.finds(x, "BEYOND is asked before STATE", Due.BEYOND, () -> x.reread(0, 16));
         x.lose(0, false);
         DUE.is("reread as it was", x.reread(0, 1), 0);
     }
@@ -279,13 +219,8 @@ public final class LettersTest {
         DUE.is("day 0", x.day(0, 0), 110);
         DUE.is("day 1", x.day(0, 1), 130);
         DUE.is("day 2", x.day(0, 2), 199);
-        DUE.finds(x, "day 3", Due.NONE, () -> x.day(0, 3));
-        DUE.finds(x, "day -1", Due.BEYOND, () -> x.day(0, -1));
-        DUE.finds(x, "day of no letter", Due.BEYOND, () -> x.day(2, 0));
-        DUE.finds(x, "the greatest day", Due.NONE, () -> x.day(0, Integer.MAX_VALUE));
         DUE.is("days by one", x.days(1), 1);
         DUE.is("day by one", x.day(1, 0), 1098);
-        DUE.finds(x, "day 1 by one", Due.NONE, () -> x.day(1, 1));
         Due.read(x, "reckon 3 more 0; reckon 2 more 5", 0);
         DUE.is("days by four unlike ones", x.days(0), 4);
         long[] want = {100, 105, 110, 130};
@@ -312,20 +247,5 @@ public final class LettersTest {
         DUE.is("evening of a LOST one", x.evening(0), 0b1000110);
         x.tick(1);
         DUE.is("evening when one is KNOWN", x.evening(0), 0b1001110);
-    }
-
-    private static void noLetter() {
-        ShakeLetters x = withKinds();
-        for (int no : new int[] {-1, 6, Integer.MIN_VALUE, Integer.MAX_VALUE}) {
-            DUE.finds(x, "lose(" + no + ")", Due.BEYOND, () -> x.lose(no, true));
-            DUE.finds(x, "reread(" + no + ")", Due.BEYOND, () -> x.reread(no, 0));
-            DUE.finds(x, "counts(" + no + ")", Due.BEYOND, () -> x.counts(no));
-            DUE.finds(x, "lets(" + no + ")", Due.BEYOND, () -> x.lets(no));
-            DUE.finds(x, "root(" + no + ")", Due.BEYOND, () -> x.root(no));
-            DUE.finds(x, "tree(" + no + ")", Due.BEYOND, () -> x.tree(no));
-            DUE.finds(x, "days(" + no + ")", Due.BEYOND, () -> x.days(no));
-            DUE.finds(x, "day(" + no + ", 0)", Due.BEYOND, () -> x.day(no, 0));
-            DUE.finds(x, "evening(" + no + ")", Due.BEYOND, () -> x.evening(no));
-        }
     }
 }

@@ -7,11 +7,14 @@ public final class RoomTest {
             (com.sun.management.ThreadMXBean) ManagementFactory.getThreadMXBean();
 
     public static void main(String[] args) {
-        ShakeLetters x = new ShakeLetters();
-        allCalls(x);
+        allCalls(new ShakeLetters());
         long made = allocated(() -> new ShakeLetters());
+        ShakeLetters[] objects = new ShakeLetters[20];
+        for (int i = 0; i < objects.length; i++) {
+            objects[i] = new ShakeLetters();
+        }
         long used = allocated(() -> {
-            for (int i = 0; i < 20; i++) {
+            for (ShakeLetters x : objects) {
                 allCalls(x);
             }
         });

@@ -10,10 +10,8 @@ public final class ShakesTest {
         miss();
         twoAndSplit();
         pairAndNight();
-        pairFindings();
         fits();
         falls();
-        noShake();
         DUE.end();
     }
 
@@ -34,8 +32,6 @@ public final class ShakesTest {
         DUE.is("an empty span", x.span(0), 0);
         x.lose(2, true);
         DUE.is("span without the LOST one", x.span(0), 0x1C0);
-        DUE.finds(x, "span(2)", Due.BEYOND, () -> x.span(2));
-        DUE.finds(x, "span(-1)", Due.BEYOND, () -> x.span(-1));
     }
 
     private static void beside() {
@@ -56,8 +52,6 @@ public final class ShakesTest {
         DUE.is("beside a LOST one", x.beside(1), 0x1F8);
         x.reread(2, 1);
         DUE.is("beside(0): what its copy lets", x.beside(0), 0xFE0);
-        DUE.finds(x, "beside(4)", Due.BEYOND, () -> x.beside(4));
-        DUE.finds(x, "beside(-1)", Due.BEYOND, () -> x.beside(-1));
     }
 
     private static void silent() {
@@ -106,8 +100,6 @@ public final class ShakesTest {
         Due.read(x, "falls 20", 0);
         DUE.is("FALLS 20", x.step(390, 1), 11);
         DUE.is("FALLS 20: 242 / 20", x.step(150, 1), 5);
-        DUE.finds(x, "step in no town", Due.BEYOND, () -> x.step(50, 3));
-        DUE.finds(x, "step in -1", Due.BEYOND, () -> x.step(50, -1));
     }
 
     /** TOWNS 0 to 2 in CELL 0 let 4 to 6 and 3, none, and all. */
@@ -133,8 +125,6 @@ public final class ShakesTest {
             DUE.is("miss of all by " + strength, x.miss(10 * strength, -1), 12 + want[strength]);
         }
         DUE.is("miss without towns", new ShakeLetters().miss(143393, -1), 0);
-        DUE.finds(x, "miss in 3", Due.BEYOND, () -> x.miss(0, 3));
-        DUE.finds(x, "miss in -2", Due.BEYOND, () -> x.miss(0, -2));
     }
 
     private static void twoAndSplit() {
@@ -195,30 +185,6 @@ public final class ShakesTest {
         DUE.is("night without towns", none.night(3), 0);
     }
 
-    private static void pairFindings() {
-        ShakeLetters x = new ShakeLetters();
-        lay(x, 1, -1);
-        lay(x, 2, 0, 0, 0, 0, 0, 0, 0, 0, 0, 0, 0, 0, 0);
-        lay(x, 3, 0, 4);
-        for (int s : new int[] {-1, 4}) {
-            DUE.finds(x, "pair(" + s + ")", Due.BEYOND, () -> x.pair(s));
-            DUE.finds(x, "night(" + s + ")", Due.BEYOND, () -> x.night(s));
-        }
-        DUE.finds(x, "pair of a missing sheet", Due.MISSING, () -> x.pair(0));
-        DUE.finds(x, "night of a missing sheet", Due.MISSING, () -> x.night(0));
-        for (int s : new int[] {1, 2}) {
-            DUE.finds(x, "pair: size " + s, Due.SIZE, () -> x.pair(s));
-            DUE.finds(x, "night: size " + s, Due.SIZE, () -> x.night(s));
-        }
-        for (long no : new long[] {4, 400, 144000, -1, 1L << 32, Long.MIN_VALUE, Long.MAX_VALUE}) {
-            x.write(3, 1, no);
-            DUE.finds(x, "pair with " + no, Due.BEYOND, () -> x.pair(3));
-            DUE.finds(x, "night with " + no, Due.BEYOND, () -> x.night(3));
-        }
-        x.write(3, 1, 143393);
-        DUE.is("pair with the last shake", x.pair(3), 1);
-    }
-
     private static void fits() {
         ShakeLetters x = new ShakeLetters();
         x.town(0);
@@ -260,27 +226,5 @@ public final class ShakesTest {
         }
         x.houses(0, 4, 9999);
         DUE.is("most CLAY", x.falls(110, 0, 1), 8799);
-        DUE.finds(x, "falls of sort 4", Due.BEYOND, () -> x.falls(0, 0, 4));
-        DUE.finds(x, "falls of sort -1", Due.BEYOND, () -> x.falls(0, 0, -1));
-        DUE.finds(x, "falls in no town", Due.BEYOND, () -> x.falls(0, 1, 0));
-        DUE.finds(x, "falls in -1", Due.BEYOND, () -> x.falls(0, -1, 0));
-    }
-
-    private static void noShake() {
-        ShakeLetters x = withSpans();
-        for (int no : new int[] {-1, 4, 9, 400, 993, 144000, Integer.MIN_VALUE, Integer.MAX_VALUE}) {
-            DUE.finds(x, "step(" + no + ")", Due.BEYOND, () -> x.step(no, 0));
-            DUE.finds(x, "miss(" + no + ")", Due.BEYOND, () -> x.miss(no, 0));
-            DUE.finds(x, "miss of all(" + no + ")", Due.BEYOND, () -> x.miss(no, -1));
-            DUE.finds(x, "two(" + no + ", 0)", Due.BEYOND, () -> x.two(no, 0));
-            DUE.finds(x, "two(0, " + no + ")", Due.BEYOND, () -> x.two(0, no));
-            DUE.finds(x, "split(" + no + ", 0)", Due.BEYOND, () -> x.split(no, 0));
-            DUE.finds(x, "split(0, " + no + ")", Due.BEYOND, () -> x.split(0, no));
-            DUE.finds(x, "fits(" + no + ")", Due.BEYOND, () -> x.fits(no));
-            DUE.finds(x, "falls(" + no + ")", Due.BEYOND, () -> x.falls(no, 0, 0));
-            DUE.finds(x, "weight(" + no + ")", Due.BEYOND, () -> x.weight(no));
-            DUE.finds(x, "note(" + no + ")", Due.BEYOND, () -> x.note(no));
-        }
-        DUE.is("the last shake", x.step(143393, 0), 0);
     }
 }

