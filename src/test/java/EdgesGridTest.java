@@ -16,6 +16,15 @@ public final class EdgesGridTest {
     private static final String NEAR = Edges.join("town(0)", Edges.text("word 0 is 11;falls 1", 0),
             "letter(1, 0, 0, -1, 0)");
 
+    /** Three TOWNS in CELL 0, FALLS 1: of DEPTH 3 only 370, 1380, 12380 and 13390 have a WEIGHT, and that is 1. */
+    private static final String LIGHT = Edges.join("town(0)", "town(0)", "town(0)",
+            Edges.text("word 0 is 0;word 1 is 10;falls 1", 0), "letter(1, 0, 0, -1, 0)", "letter(1, 101, 0, -1, 0)",
+            "letter(1, 201, 0, -1, 0)");
+
+    /** A SHAKE in a CELL 144, if there were one, would hit both TOWNS; none of THE GRID does. */
+    private static final String OUTSIDE = Edges.join("town(132)", "town(11)", "ground(11, 2)",
+            Edges.text("word 0 is 11;word 1 is 0;falls 20", 0), "letter(1, 0, 0, -1, 0)", "letter(1, 101, 0, -1, 0)");
+
     public static void main(String[] args) {
         weight();
         odds();
@@ -24,6 +33,7 @@ public final class EdgesGridTest {
         judge();
         judgeFindings();
         next();
+        nextAtTheEnds();
         without();
         E.end(37, 43);
     }
@@ -79,6 +89,12 @@ public final class EdgesGridTest {
         E.edge("the last DEPTH", lets("0"), "odds(3, 0) = 7689557", "odds(3, -1) = 4070729407");
         E.edge("a CELL whose WEIGHTS are all 0", NEAR, "odds(0, 143) = 0", "odds(0, 0) = 30758229",
                 "odds(0, 73) = 5", "odds(0, -1) = 473962537");
+        E.edge("WEIGHTS as light as can be", LIGHT, "odds(3, -1) = 4", "odds(3, 0) = 1", "odds(3, 1) = 1",
+                "odds(3, 12) = 1", "odds(3, 13) = 1", "odds(3, 2) = 0", "weight(373) = 1", "weight(13393) = 1",
+                "weight(363) = 0", "weight(383) = 0");
+        E.edge("GROUND lifts the least STRENGTH", lets("0"), "ground(0, 2)", "odds(0, 0) = 87381");
+        E.edge("GROUND lifts the least STRENGTH, of two TOWNS", lets("0"), "ground(0, 2)", "town(0)",
+                "letter(1, 100, 0, -1, 0)", "odds(0, 0) = 4369");
         E.edge("the least WEIGHT of a CELL", NEAR, "odds(1, 29) = 1", "odds(1, 30) = 0", "odds(1, 41) = 0");
         E.edge("a change shows at once", lets("0"), "odds(0, 0) = 1398101", "lose(0, true)", "odds(0, 0) = 41943040",
                 "lose(0, false)", "odds(0, -1) = 3212070744", "lose(0, true)", "odds(0, -1) = 6039797760");
@@ -102,6 +118,9 @@ public final class EdgesGridTest {
                 "best(3) = 131393");
         E.edge("of like ones the lesser STRENGTH", lets("5-7"), "miss(60, -1) = 0", "miss(70, -1) = 0", "best(0) = 50");
         E.edge("a change shows at once", lets("5-7"), "best(0) = 50", "reread(0, 9)", "best(0) = 0");
+        E.edge("GROUND lifts the least STRENGTH", lets("0"), "ground(0, 2)", "best(0) = 3000",
+                Edges.text("ground 2 more 9", 0), "best(0) = 6000");
+        E.edge("no CELL behind the last, though it would miss less", OUTSIDE, "best(0) = 132100", "miss(132100, -1) = 1");
         E.edge("none has MISS 0", lets("0"), "town(0)", Edges.text("word 1 is 2", 0), "letter(1, 101, 0, -1, 0)",
                 "best(0) = 0", "miss(0, -1) = 2", "miss(10, -1) = 2");
     }
@@ -117,6 +136,9 @@ public final class EdgesGridTest {
         E.edge("at least: one more than cut", "narrow(0, 1) = 2", "narrow(0, 2) = 3", "narrow(0, 51) = 74",
                 "narrow(0, 99) = 143");
         E.edge("one CELL has enough, and not enough", NEAR, "narrow(0, 1) = 1", "narrow(0, 6) = 1", "narrow(0, 7) = 2");
+        E.edge("four CELLS of WEIGHT 1", LIGHT, "narrow(3, 0) = 0", "narrow(3, 1) = 1", "narrow(3, 25) = 1",
+                "narrow(3, 26) = 2", "narrow(3, 50) = 2", "narrow(3, 51) = 3", "narrow(3, 75) = 3", "narrow(3, 76) = 4",
+                "narrow(3, 100) = 4");
         E.edge("the last CELL that is needed has WEIGHT 1", NEAR, "narrow(1, 100) = 30");
         E.edge("a change shows at once", NEAR, "narrow(0, 100) = 37", "lose(0, true)", "narrow(0, 100) = 144");
         E.edge("CELLS with WEIGHT 0 aren't needed", NEAR, "narrow(0, 99) = 27", "narrow(0, 100) = 37");
@@ -165,6 +187,10 @@ public final class EdgesGridTest {
                 "judge(0, 0) = 0");
         E.edge("all WEIGHTS lie in them", NEAR, Edges.row(0, 64, numbers(near())), "judge(0, 0) = 100");
         E.edge("all but a little", NEAR, Edges.row(0, 64, numbers(near())), "write(0, 36, 0)", "judge(0, 0) = 99");
+        E.edge("four CELLS of WEIGHT 1", LIGHT, "sheet(0, 8, 4)", "judge(3, 0) = 25", "write(0, 3, 13)",
+                "judge(3, 0) = 50", "write(0, 2, 12)", "judge(3, 0) = 75", "write(0, 1, 1)", "judge(3, 0) = 100");
+        E.edge("a sheet of none beside four CELLS of WEIGHT 1", LIGHT, "sheet(0, 8, 0)", "judge(3, 0) = 0");
+        E.edge("CELLS of WEIGHT 0 beside four of WEIGHT 1", LIGHT, Edges.row(0, 8, 2, 3, 14), "judge(3, 0) = 0");
         E.edge("no WEIGHT lies in them", NEAR, Edges.row(0, 64, 143, 142), "judge(0, 0) = 0");
         E.edge("one CELL of much WEIGHT", NEAR, Edges.row(0, 8, 0), "judge(0, 0) = 6");
         E.edge("a change shows at once", NEAR, Edges.row(0, 8, 0), "judge(0, 0) = 6", "lose(0, true)", "judge(0, 0) = 0",
@@ -218,9 +244,32 @@ public final class EdgesGridTest {
                 "letter(1, 101, 0, -1, 0)"), "next(0) = 1");
         E.edge("a change shows at once", "town(65)", "town(0)", "next(0) = 1", Edges.text("word 0 is 5", 0),
                 "letter(1, 100, 0, -1, 0)", "next(0) = 0");
+        E.edge("what an earlier call counted is forgotten", "town(0)", "town(65)", "next(0) = 0",
+                Edges.text("word 0 is 5-6", 0), "letter(1, 100, 0, -1, 0)", "next(0) = 1");
         E.edge("the last TOWN alone", tellingOfAll("5"), "lose(15, true)", "next(0) = 15");
         E.edge("the last TOWN too has one STEP", tellingOfAll("5"), "next(0) = NONE");
         E.edge("one with an empty SPAN isn't asked", EMPTY, "town(65)", "next(0) = 1");
+    }
+
+    /** TOWNS, each told as its CELL and the first and the last STEP that an EYE lets. */
+    private static void asksFor(String name, int falls, int depth, int due, int... towns) {
+        StringBuilder rules = new StringBuilder("falls " + falls);
+        StringBuilder calls = new StringBuilder();
+        for (int i = 0; i < towns.length / 3; i++) {
+            rules.append(";word " + i + " is " + towns[3 * i + 1] + "-" + towns[3 * i + 2]);
+            calls.append("; town(" + towns[3 * i] + "); letter(1, " + 101 * i + ", 0, -1, 0)");
+        }
+        E.edge(name, Edges.text(rules.toString(), 0) + calls, "next(" + depth + ") = " + due);
+    }
+
+    /** Runs in which one SHAKE more or less at an end of THE GRID would change the answer. */
+    private static void nextAtTheEnds() {
+        asksFor("the first STRENGTH is in THE GRID", 20, 0, 0, 65, 0, 1, 66, 0, 11);
+        asksFor("the last STRENGTH is in THE GRID", 4, 3, 1, 143, 8, 11, 12, 0, 1, 1, 3, 11);
+        asksFor("no STRENGTH behind the last is", 1, 3, 0, 66, 5, 6, 143, 5, 11);
+        asksFor("the first CELL is in THE GRID, and none behind the last", 20, 0, 0, 132, 0, 11, 0, 0, 11);
+        asksFor("the last CELL is in THE GRID", 20, 0, 0, 12, 0, 11, 132, 8, 11);
+        asksFor("no CELL before the first is", 4, 0, 1, 12, 8, 9, 143, 0, 11);
     }
 
     private static void without() {
@@ -243,6 +292,8 @@ public final class EdgesGridTest {
         E.edge("a TORN one", apart, "letter(5, 5, 0, -1, 0)", "without(0, 2) = 2");
         E.edge("one that isn't KNOWN yet", apart, "letter(1, 5, 0, -1, 10)", "without(0, 2) = 2");
         E.edge("a COPIED one COUNTS in its stead", EMPTY, "letter(3, 1, 0, 0, 0)", "without(0, 0) = 0");
+        E.edge("no CELL behind the last, though it would miss less", OUTSIDE, "letter(5, 0, 0, -1, 0)",
+                "without(0, 2) = 1", "without(0, 0) = 0");
         E.edge("a COPIED one in its stead makes it greater", lets("0-11"), Edges.text("word 1 is 9;word 2 is 0", 0),
                 "letter(3, 1, 0, 0, 0)", "letter(1, 2, 0, -1, 0)", "without(0, 0) = 12", "without(0, 2) = 0",
                 "miss(0, -1) = 0");

@@ -237,6 +237,9 @@ public final class EdgesLettersTest {
                 "letter(2, 0, 0, 0, 0)", "letter(3, 0, 0, 0, 0)", "counts(1) = 1", "counts(2) = 1");
         E.edge("COPIED: a lesser one that doesn't COUNT hides none", two, "letter(3, 0, 0, 0, 0)", "lose(0, true)",
                 "lose(1, true)", "counts(2) = 1", "counts(3) = 0", "lose(2, true)", "counts(3) = 1");
+        E.edge("COPIED from two in turn", "town(0)", "letter(5, 0, 0, -1, 0)", "letter(5, 0, 0, -1, 0)",
+                "letter(3, 0, 0, 0, 0)", "letter(3, 0, 0, 1, 0)", "letter(3, 0, 0, 0, 0)", "letter(3, 0, 0, 1, 0)",
+                "counts(2) = 1", "counts(3) = 1", "counts(4) = 0", "counts(5) = 0");
         E.edge("COPIED of another TOWN hides all the same", "town(0)", "town(1)", "letter(0, 0, 0, -1, 0)",
                 "letter(3, 100, 0, 0, 0)", "counts(1) = 0");
         E.edge("COPIED: a chain as long as can be", "town(0)", "letter(0, 0, 0, -1, 0)", chainOf(3), "counts(0) = 1",
@@ -390,6 +393,8 @@ public final class EdgesLettersTest {
                 "evening(0) = 0b11", "evening(1) = 0b11");
         E.edge("not told, both: none of four is the same", dated(FOUR, 1004), "letter(0, 0, 524, -1, 0)",
                 "evening(0) = 0b1", "evening(1) = 0b10");
+        E.edge("not told: FALLS is no fifth RECKONING", dated("", 1040), "letter(0, 0, 1004, -1, 0)", "evening(0) = 0b1",
+                "evening(1) = 0b10", "days(1) = 1");
         E.edge("of another TOWN all the same", dated("", 1000), "town(1)", "letter(0, 100, 1000, -1, 0)",
                 "evening(0) = 0b11");
     }

@@ -116,6 +116,8 @@ public final class EdgesShakesTest {
         E.edge("the last DEPTH", "town(0)", "step(73, 0) = 1");
         E.edge("the last STRENGTH", "town(0)", "step(390, 0) = 11");
         E.edge("the last CELL", "town(143)", "step(143050, 0) = 5");
+        E.edge("the last CELL, where none beside it is as near", "town(143)", Edges.text("falls 1", 0),
+                "step(143050, 0) = 5", "step(142050, 0) = 4", "step(131050, 0) = 4");
         E.edge("the last TOWN", Edges.times(15, "town(143)"), "town(0)", "step(50, 15) = 5", "step(50, 14) = 0");
         E.edge("0 at least: 0 itself, one above, one below", "town(0)", "step(28050, 0) = 0", "step(28060, 0) = 1",
                 "step(28040, 0) = 0");
@@ -206,6 +208,9 @@ public final class EdgesShakesTest {
         E.edge("like in one TOWN, lesser in another", CORNERS, "two(70, 143070) = 2", "two(90, 143070) = 2");
         E.edge("a change shows at once", CORNERS, "two(80, 80) = 8", "lose(1, true)", "two(80, 80) = 0");
         E.edge("an empty SPAN counts once", told("0", "1"), "two(0, 110) = 12");
+        E.edge("a TOWN that is gone counts no more", Edges.text("word 0 is 8", 0), "town(0)", "letter(1, 0, 0, -1, 0)",
+                "image()", "town(143)", "letter(1, 100, 0, -1, 0)", "two(80, 80) = 8", "undo()", "two(80, 80) = 0",
+                "two(80, 0) = 0");
         E.edge("the last TOWN counts", Edges.times(15, "town(0)"), "town(143)", Edges.text("word 0 is 8", 0),
                 "letter(1, 1500, 0, -1, 0)", "two(80, 0) = 8", "two(80, 143070) = 1");
     }
@@ -240,6 +245,9 @@ public final class EdgesShakesTest {
                 Edges.row(0, 64, 80, 143080, 80, 143080, 80, 143080, 80, 143080, 80, 143080, 80, 143080), "pair(0) = 1");
         E.edge("the most: twelve, the last two", CORNERS,
                 Edges.row(0, 64, 0, 0, 0, 0, 0, 0, 0, 0, 0, 0, 80, 143080), "pair(0) = 1011");
+        E.edge("the most: twelve, and sixteen TOWNS", Edges.times(15, "town(0)"), "town(143)",
+                Edges.text("word 0 is 8", 0), "letter(1, 0, 0, -1, 0)", "letter(1, 1500, 0, -1, 0)",
+                Edges.row(0, 64, 0, 0, 0, 0, 0, 0, 0, 0, 0, 0, 80, 143080), "pair(0) = 1011", "night(0) = 8");
         E.edge("the most: the first and the last", CORNERS,
                 Edges.row(0, 64, 80, 0, 0, 0, 0, 0, 0, 0, 0, 0, 0, 143080), "pair(0) = 11");
         E.edge("of like ones the least such number: all alike", CORNERS, Edges.row(0, 64, 80, 80, 80), "pair(0) = 1");

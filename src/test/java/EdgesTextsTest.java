@@ -147,6 +147,15 @@ public final class EdgesTextsTest {
         fault("NAMES as long as can be", "falls2;wordis", 7);
         fault("a NAME that begins like one of these", "fallsx 2", 0);
         fault("a NAME that is the beginning of one", "fall 2", 0);
+        fault("a NAME with one letter more, the first", "fallsa 2", 0);
+        fault("a NAME with one letter more, the last", "fallsz 2", 0);
+        fault("a NAME with another first letter, falls", "galls 2", 0);
+        fault("a NAME with another last letter, falls", "fallt 2", 0);
+        fault("a NAME with another first letter, word", "xord 1 is 2", 0);
+        fault("a NAME with another first letter, is", "word 1 as 2", 7);
+        fault("a NAME with another last letter, is", "word 1 it 2", 7);
+        fault("a NAME with another first letter, more", "reckon 1 gore 2", 9);
+        fault("a NAME with another last letter, more", "ground 1 mort 2", 9);
         fault("a NAME of one letter, the first", "a 2", 0);
         fault("a NAME of one letter, the last", "z 2", 0);
         fault("a NAME for another one, is", "word 1 more 3", 7);
